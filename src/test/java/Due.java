@@ -1,0 +1,27 @@
+/** Compares answers with those that are due, and ends a test with exit code 1 if one was not. */
+final class Due {
+    private static int looked = 0;
+    private static int wrong = 0;
+
+    private Due() {
+    }
+
+    static void is(String call, long got, long want) {
+        looked++;
+        if (got != want) {
+            wrong++;
+            System.out.println(call + " answered " + got + ", due is " + want);
+        }
+    }
+
+    static void is(String call, boolean got, boolean want) {
+        is(call, got ? 1 : 0, want ? 1 : 0);
+    }
+
+    static void end() {
+        System.out.println(looked + " answers looked at, " + wrong + " not as due");
+        if (wrong != 0 || looked == 0) {
+            System.exit(1);
+        }
+    }
+}
