@@ -416,27 +416,22 @@ public final class HandLoom {
             this.numbers = new int[n];
         }
 
-        @Override
         int size() {
             return numbers.length;
         }
 
-        @Override
         int tells(int i) {
             return numbers[i];
         }
 
-        @Override
         void lay(int i, int v) {
             numbers[i] = wrapped(v);
         }
 
-        @Override
         void pull(int i, int v) {
             numbers[i] = wrapped(numbers[i] + v);
         }
 
-        @Override
         boolean part(int i, int v) {
             if (v == 0) {
                 return false;
@@ -445,7 +440,6 @@ public final class HandLoom {
             return true;
         }
 
-        @Override
         void trade(int i, int j) {
             int kept = numbers[i];
             numbers[i] = numbers[j];
@@ -470,33 +464,27 @@ public final class HandLoom {
             this.up = new boolean[n];
         }
 
-        @Override
         int size() {
             return up.length;
         }
 
-        @Override
         int tells(int i) {
             return up[i] ? 1 : 0;
         }
 
-        @Override
         void lay(int i, int v) {
             up[i] = isOdd(v);
         }
 
-        @Override
         void pull(int i, int v) {
             up[i] = up[i] != isOdd(v);
         }
 
-        @Override
         boolean part(int i, int v) {
             up[i] = up[i] && isOdd(v);
             return true;
         }
 
-        @Override
         void trade(int i, int j) {
             boolean kept = up[i];
             up[i] = up[j];
@@ -515,27 +503,22 @@ public final class HandLoom {
             this.tensions = new float[n];
         }
 
-        @Override
         int size() {
             return tensions.length;
         }
 
-        @Override
         int tells(int i) {
             return (int) (tensions[i] * EIGHTHS);
         }
 
-        @Override
         void lay(int i, int v) {
             tensions[i] = held(eighths(v));
         }
 
-        @Override
         void pull(int i, int v) {
             tensions[i] = held(tensions[i] + eighths(v));
         }
 
-        @Override
         boolean part(int i, int v) {
             if (v == 0) {
                 return false;
@@ -544,14 +527,12 @@ public final class HandLoom {
             return true;
         }
 
-        @Override
         void trade(int i, int j) {
             float kept = tensions[i];
             tensions[i] = tensions[j];
             tensions[j] = kept;
         }
 
-        @Override
         int oneMore() {
             return EIGHTHS;
         }
