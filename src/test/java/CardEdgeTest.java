@@ -246,5 +246,12 @@ public final class CardEdgeTest {
                 Due.fine("without it", x, x.run(good), good);
             }
         }
+        HandLoom y = Hand.threaded(1);
+        y.card(TURN, 0, YARN, 0, 0);
+        y.card(TURN, 0, YARN, 0, 0);
+        Due.fine("each one as often as it was", y, y.run(12), 12);
+        y.card(PART, 1, YARN, 0, 1);
+        y.keeper(1 << MISSING);
+        Due.fine("passed over ones, too", y, y.run(11), 11);
     }
 }

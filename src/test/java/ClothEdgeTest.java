@@ -297,6 +297,7 @@ public final class ClothEdgeTest {
             Due.fault("no CELL " + k, x, x.cell(1, k), OUTSIDE);
         }
         Due.fault("snipped", x, x.cell(0, 1), MISSING);
+        Due.fine("the first CELL", x, x.cell(1, 0), 0);
         Due.fine("the last CELL of the last PICK", x, x.cell(1, 1), 0);
         x.cloth(1, 0);
         Due.fault("of no CELLS", x, x.cell(0, 0), OUTSIDE);

@@ -162,8 +162,13 @@ public final class LaneEdgeTest {
             Due.is("PART", Hand.look(x, 3, lane, 2), 0);
             x.swap(0, lane, 0, 10);
             Due.is("swap", Hand.look(x, 3, lane, 10), one(lane));
-            Due.fault("no other sort", x, x.ends(0, (lane + 1) % 5), MISSING);
             Due.is("no other frame", x.cut(1, lane), 0);
+            int sort = (lane + 1) % 5;
+            x.thread(0, sort, 7);
+            x.thread(3, sort, 9);
+            x.tie(0, lane, 3);
+            Due.is("no other sort", x.ends(0, sort), 7);
+            Due.is("nor of the other frame", x.ends(3, sort), 9);
         }
     }
 

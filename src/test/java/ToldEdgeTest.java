@@ -217,6 +217,8 @@ public final class ToldEdgeTest {
         Due.is("behind a NONE", x.told(8), 12 * 65535);
         x.act(TURN, 0, YARN, 0, 0);
         Due.is("behind an act", x.told(8), 12 * 65535);
+        x.act(PART, 0, YARN, 0, 0);
+        Due.is("behind a FAULT", x.told(8), 12 * 65535);
         x.unhook();
         x.run(1);
         Due.is("behind a NONE of no CARDS", x.told(8), 12 * 65535);

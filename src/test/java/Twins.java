@@ -8,11 +8,13 @@ final class Twins {
     private static final int ENDS = 3;
 
     private final String call;
+    private final int threads;
     private final HandLoom one;
     private final HandLoom other;
 
     private Twins(String call, int threads) {
         this.call = call;
+        this.threads = threads;
         this.one = worked(threads);
         this.other = worked(threads);
     }
@@ -20,10 +22,11 @@ final class Twins {
     /** The call answers NONE, nothing happens, and there is no FAULT. */
     static void refused(String call, int threads, ToIntFunction<HandLoom> made) {
         Twins twins = new Twins(call, threads);
+        // A FAULT ahead of it, which told(0) has to go on telling.
+        twins.bothAnswer("LOOK at no END", x -> Hand.look(x, 0, 0, ENDS));
         Due.is(call, made.applyAsInt(twins.one), HandLoom.NONE);
-        twins.bothAnswer("told(0)", x -> x.told(0));
-        for (int fault = 1; fault <= 5; fault++) {
-            twins.sameTold(fault);
+        for (int what = 0; what <= 5; what++) {
+            twins.sameTold(what);
         }
         twins.sameRest();
     }
@@ -33,19 +36,18 @@ final class Twins {
         Twins twins = new Twins(call, threads);
         Due.fault(call, twins.one, made.applyAsInt(twins.one), fault);
         for (int kind = 1; kind <= 5; kind++) {
-            if (kind == fault) {
-                Due.is(call + ": one FAULT more", twins.one.told(kind), twins.other.told(kind) + 1);
-            } else {
-                twins.sameTold(kind);
-            }
+            int more = kind == fault ? 1 : 0;
+            Due.is(call + ", then told(" + kind + ")", twins.one.told(kind) - more,
+                twins.other.told(kind));
         }
         twins.sameRest();
     }
 
     /**
      * Frame 0 has 3 ENDS of each sort, frame 1 is tied to it, frame 2 has 0 ENDS of each, frame 3
-     * none; of three PICKS the first two hang together, and the last one is snipped; the latest
-     * FAULT is OUTSIDE; MISSING and EMPTY are passed over.
+     * none; of three PICKS the first two hang together, and the last one is snipped; MISSING and
+     * EMPTY are passed over. There was no FAULT: one that changes more than it may would else have
+     * done so to both already.
      */
     private static HandLoom worked(int threads) {
         HandLoom x = new HandLoom();
@@ -68,21 +70,24 @@ final class Twins {
         for (int k = 0; k < threads; k++) {
             x.spool(1000 + k);
         }
-        x.act(0, 0, 0, ENDS, 0);
         return x;
     }
 
+    /** What has no FAULT is asked first, for the same reason. */
     private void sameRest() {
         for (int what = 6; what <= 9; what++) {
             sameTold(what);
         }
-        sameLanes();
-        sameCloth();
+        sameLanes(0, 1);
+        sameCells(0, 1, ENDS - 1);
+        sameThreads(threads);
         sameCards();
-        sameThreads();
-        sameKeeper();
         sameTies();
         sameHanging();
+        sameKeeper();
+        sameLanes(2, 3);
+        sameCells(0, 3, ENDS);
+        sameThreads(1);
     }
 
     private void bothAnswer(String asked, ToIntFunction<HandLoom> asks) {
@@ -94,8 +99,8 @@ final class Twins {
         bothAnswer("told(" + what + ")", x -> x.told(what));
     }
 
-    private void sameLanes() {
-        for (int frame = 0; frame < 4; frame++) {
+    private void sameLanes(int first, int last) {
+        for (int frame = first; frame <= last; frame++) {
             for (int lane = 0; lane < 5; lane++) {
                 int f = frame;
                 int l = lane;
@@ -110,14 +115,20 @@ final class Twins {
         }
     }
 
-    private void sameCloth() {
-        for (int k = 0; k < 4; k++) {
+    private void sameCells(int first, int last, int lastCell) {
+        for (int k = first; k <= last; k++) {
             int p = k;
-            for (int c = 0; c <= ENDS; c++) {
+            for (int c = 0; c <= lastCell; c++) {
                 int e = c;
                 bothAnswer("cell(" + p + ", " + e + ")", x -> x.cell(p, e));
                 bothAnswer("the FAULT of cell(" + p + ", " + e + ")", x -> x.told(0));
             }
+        }
+    }
+
+    private void sameThreads(int draws) {
+        for (int k = 0; k < draws; k++) {
+            bothAnswer("the next THREAD", x -> x.act(1, 0, 0, 0, 0));
         }
     }
 
@@ -127,10 +138,17 @@ final class Twins {
         bothAnswer("unhook()", HandLoom::unhook);
     }
 
-    private void sameThreads() {
-        for (int k = 0; k < 17; k++) {
-            bothAnswer("the next THREAD", x -> x.act(1, 0, 0, 0, 0));
+    private void sameTies() {
+        for (int k = 0; k < 5; k++) {
+            int lane = k;
+            bothAnswer("TURN in frame 0", x -> Hand.turn(x, 0, lane, 0));
+            bothAnswer("END 0 of frame 1", x -> Hand.look(x, 1, lane, 0));
         }
+    }
+
+    private void sameHanging() {
+        bothAnswer("weave", x -> x.weave(0, 0, 888));
+        sameCells(0, 1, ENDS - 1);
     }
 
     /** With no THREAD left. SIZE is no FAULT of an ACT, so that its bit shows nowhere. */
@@ -145,26 +163,5 @@ final class Twins {
         bothAnswer("a CARD of " + fault, x -> x.card(kind, frame, 0, i, 0));
         bothAnswer("a run of " + fault, x -> x.run(1));
         bothAnswer("unhook()", HandLoom::unhook);
-    }
-
-    private void sameTies() {
-        for (int k = 0; k < 5; k++) {
-            int lane = k;
-            bothAnswer("TURN in frame 0", x -> Hand.turn(x, 0, lane, 0));
-            bothAnswer("END 0 of frame 1", x -> Hand.look(x, 1, lane, 0));
-            bothAnswer("TURN in frame 2", x -> Hand.turn(x, 2, lane, 0));
-            bothAnswer("TURN in frame 3", x -> Hand.turn(x, 3, lane, 0));
-        }
-    }
-
-    private void sameHanging() {
-        bothAnswer("weave", x -> x.weave(0, 0, 888));
-        for (int k = 0; k < 3; k++) {
-            int p = k;
-            for (int c = 0; c < ENDS; c++) {
-                int e = c;
-                bothAnswer("woven CELL " + e + " of PICK " + p, x -> x.cell(p, e));
-            }
-        }
     }
 }
